@@ -378,37 +378,30 @@ public final class TideStation {
             items = new float[n];
         }
 
-        @Override
         int count() {
             return items.length;
         }
 
-        @Override
         float asFloat(int i) {
             return items[i];
         }
 
-        @Override
         double asDouble(int i) {
             return items[i];
         }
 
-        @Override
         long asLong(int i) {
             return (long) items[i];
         }
 
-        @Override
         long bits(int i) {
             return Binary.floatBits(items[i]);
         }
 
-        @Override
         void become(int i, double number) {
             items[i] = (float) number;
         }
 
-        @Override
         void take(int i, Row source, int j) {
             items[i] = source.asFloat(j);
         }
@@ -421,37 +414,30 @@ public final class TideStation {
             items = new double[n];
         }
 
-        @Override
         int count() {
             return items.length;
         }
 
-        @Override
         float asFloat(int i) {
             return (float) items[i];
         }
 
-        @Override
         double asDouble(int i) {
             return items[i];
         }
 
-        @Override
         long asLong(int i) {
             return (long) items[i];
         }
 
-        @Override
         long bits(int i) {
             return Binary.doubleBits(items[i]);
         }
 
-        @Override
         void become(int i, double number) {
             items[i] = number;
         }
 
-        @Override
         void take(int i, Row source, int j) {
             items[i] = source.asDouble(j);
         }
@@ -464,37 +450,30 @@ public final class TideStation {
             items = new long[n];
         }
 
-        @Override
         int count() {
             return items.length;
         }
 
-        @Override
         float asFloat(int i) {
             return (float) items[i];
         }
 
-        @Override
         double asDouble(int i) {
             return (double) items[i];
         }
 
-        @Override
         long asLong(int i) {
             return items[i];
         }
 
-        @Override
         long bits(int i) {
             return items[i];
         }
 
-        @Override
         void become(int i, double number) {
             items[i] = (long) number;
         }
 
-        @Override
         void take(int i, Row source, int j) {
             items[i] = source.asLong(j);
         }
@@ -526,7 +505,6 @@ public final class TideStation {
             this.sixtyFourths = sixtyFourths;
         }
 
-        @Override
         int shown(float x) {
             float size = sixtyFourths / 64.0f;
             return (int) (Binary.hasRest(x, size) ? Binary.folded(x, size) : x);
