@@ -404,6 +404,9 @@ public final class NumberBoundaryTests {
         rest(-7, 0, 4, 0, -3f);
         rest(7, 0, -4, 0, 3f);
         rest(-7, 0, -4, 0, -3f);
+        rest(11, -1, 1, 0, 0.5f);
+        rest(11, -1, -1, 0, 0.5f);
+        rest(-11, -1, -1, 0, -0.5f);
         rest(15, -3, 1, -1, 0.375f);
         rest(-15, -3, 1, -1, -0.375f);
     }
@@ -560,6 +563,8 @@ public final class NumberBoundaryTests {
         phase(-7, 0, 4, 0, -3.0);
         phase(7, 0, -4, 0, 3.0);
         phase(-7, 0, -4, 0, -3.0);
+        phase(11, -1, -1, 0, 0.5);
+        phase(-11, -1, 1, 0, -0.5);
         phase(8, 0, 4, 0, 0.0);
         phase(-8, 0, 4, 0, -0.0);
         phase(-8, 0, -4, 0, -0.0);
