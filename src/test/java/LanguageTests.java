@@ -28,7 +28,10 @@ public final class LanguageTests {
     private static final String[] RULED_OUT = {"\\bthrow\\b", "\\btry\\b", "\\bcatch\\b", "\\bsynchronized\\b",
         "\\bassert\\b", "\\bimport\\b", "\\bpackage\\b", "\\bprotected\\b", "->", "::", "\\bFloat\\s*\\.",
         "\\bDouble\\s*\\.", "\\bSystem\\b(?!\\.arraycopy)", "\\bThread\\b", "Exact\\b", "\\bhashCode\\b",
-        "\\btoString\\b", "\\bstatic\\s*\\{", "\\bstrictfp\\b", "\\bnative\\b"};
+        "\\btoString\\b", "\\bstatic\\s*\\{", "\\bstrictfp\\b", "\\bnative\\b", "@"};
+
+    /** Filled by nestedClasses(). */
+    private static final Set<String> ownClasses = new TreeSet<>(Set.of("TideStation"));
 
     private static int wrong = 0;
 
@@ -36,6 +39,7 @@ public final class LanguageTests {
         face();
         nestedClasses();
         text();
+        oneFile();
         System.out.println(wrong == 0 ? "the language is kept to" : wrong + " rules are broken");
         if (wrong != 0) {
             System.exit(1);
@@ -97,6 +101,7 @@ public final class LanguageTests {
         for (Class<?> c : nested) {
             due("rule 2: " + c + " is not static", Modifier.isStatic(c.getModifiers()));
             due("rule 1: " + c + " is public", !Modifier.isPublic(c.getModifiers()));
+            ownClasses.add(c.getSimpleName());
             staticFields(c);
         }
     }
@@ -119,6 +124,30 @@ public final class LanguageTests {
         Matcher library = Pattern.compile("\\bMath\\s*\\.\\s*(\\w+)").matcher(code);
         while (library.find()) {
             due("rule 4: Math." + library.group(1), Set.of("abs", "min", "max").contains(library.group(1)));
+        }
+        Matcher className = Pattern.compile("\\b[A-Z]\\w*[a-z]\\w*\\b").matcher(code);
+        while (className.find()) {
+            String name = className.group();
+            due("rule 4: " + name, name.equals("Math") || ownClasses.contains(name));
+        }
+        shortMethods(code);
+    }
+
+    /** A method or a constructor of any class here ends with the first brace that stands as far in as it does. */
+    private static void shortMethods(String code) {
+        Matcher method = Pattern.compile("(?m)^( {4}| {8})(?! )[^;={}]*\\) \\{\n(?s:.*?)^\\1\\}$").matcher(code);
+        int methods = 0;
+        while (method.find()) {
+            methods++;
+            long lines = method.group().lines().count();
+            due("rule 11: a method of " + lines + " lines: " + method.group().lines().findFirst().get(), lines <= 60);
+        }
+        due("rule 11: methods are found", methods > FACE.length);
+    }
+
+    private static void oneFile() throws java.io.IOException {
+        try (var files = Files.walk(Path.of("src/main"))) {
+            due("one file", files.filter(Files::isRegularFile).toList().equals(java.util.List.of(SOURCE)));
         }
     }
 }

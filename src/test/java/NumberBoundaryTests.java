@@ -17,6 +17,7 @@ public final class NumberBoundaryTests {
         longAsFloatIsTheNearest();
         longAsDoubleIsTheNearest();
         floatAsDoubleIsTheSame();
+        longAsLongIsTheSame();
         floatAsLong();
         intIsTheNearestEnd();
         bitsOfAFloatAreSpread();
@@ -36,7 +37,9 @@ public final class NumberBoundaryTests {
         tideOfAPeriodBelowZero();
         tideFromPeriodZeroOn();
         tideOfAWeightAsADouble();
+        tideOfRoundedProducts();
         tideNeedsWeightsForWavesAlone();
+        tideNeedsNoWeightWhereNoWaveIs();
         tideOfTheGreatest();
         floatMeterAtTheEdgesOfAStep();
         floatMeterReadsAsFloats();
@@ -288,6 +291,17 @@ public final class NumberBoundaryTests {
         floatAsDouble(-16777215, 104, -0xffffffp104);
         floatAsDouble(1, 128, Double.POSITIVE_INFINITY);
         floatAsDouble(-1, 128, Double.NEGATIVE_INFINITY);
+    }
+
+    /** "as that has it": where both have LONGS, nothing is turned. */
+    private static void longAsLongIsTheSame() {
+        int[][] numbers = {{0, 0}, {1, 0}, {-1, 0}, {16777217, 0}, {-16777217, 0}, {MOST, 32}, {1, 63}, {-1, 63}};
+        long[] wants = {0, 1, -1, 16777217, -16777217, 9223372032559808512L, Long.MAX_VALUE, Long.MIN_VALUE};
+        for (int k = 0; k < numbers.length; k++) {
+            int[] number = numbers[k];
+            due(number[0] + " " + number[1] + ", a LONG, as itself",
+                moved(WEIGHTS, number[0], number[1], WEIGHTS), wants[k]);
+        }
     }
 
     private static void whole(int v, int p, long want) {
@@ -741,6 +755,19 @@ public final class NumberBoundaryTests {
         due("tide by 16777217", t.tide(0, 1, 0), bits(16777217.0));
     }
 
+    /** "times WEIGHT k as a DOUBLE", and only then the sum: each product is rounded for itself. */
+    private static void tideOfRoundedProducts() {
+        int odd = (1 << 27) + 1;
+        TideStation t = withRows(2);
+        // the square of 2 to the 27 and 1 more is 2 to the 54, 2 to the 28 and 1 more: the 1 is lost
+        t.put(0, PERIODS, 0, 2, 0);
+        t.put(0, WEIGHTS, 0, -((1 << 26) + 1), 28);
+        t.put(0, PERIODS, 1, 1, 40);
+        t.put(0, WEIGHTS, 1, odd, 0);
+        due("tide of a product that was rounded", t.tide(0, odd, 0), bits(0.0));
+        due("tide of a product that was rounded, why", t.why(), 0);
+    }
+
     private static void tideRefused(String what, TideStation t, int reason) {
         due(what, t.tide(0, 1, 0), 0);
         due(what + ", why", t.why(), reason);
@@ -779,6 +806,28 @@ public final class NumberBoundaryTests {
         due("tide with more WEIGHTS", t.tide(0, 1, 0), bits(3.0));
         due("tide, NULL", t.refused(0), 2);
         due("tide, INDEX", t.refused(1), 4);
+    }
+
+    /** "a PERIOD of 0, or that is endless, has none" and "where a wave needs it": then no WEIGHT is needed. */
+    private static void tideNeedsNoWeightWhereNoWaveIs() {
+        int[][] waveless = {{0, 0}, {-1, -160}, {1, 128}, {-1, 128}};
+        for (int[] period : waveless) {
+            String what = "tide of " + period[0] + " " + period[1];
+            TideStation t = withPeriodOfAFloat(period[0], period[1]);
+            t.lose(0, WEIGHTS);
+            due(what + " without WEIGHTS", t.tide(0, 3, 0), bits(0.0));
+            due(what + " without WEIGHTS, why", t.why(), 0);
+            t.row(0, WEIGHTS, 0);
+            due(what + " with no WEIGHT", t.tide(0, 3, 0), bits(0.0));
+            due(what + " with no WEIGHT, why", t.why(), 0);
+            t.row(0, WEIGHTS, 1);
+            t.put(0, WEIGHTS, 0, 2, 0);
+            t.put(0, PERIODS, 0, 10, 0);
+            due(what + " beyond the WEIGHTS", t.tide(0, 3, 0), bits(6.0));
+            due(what + " beyond the WEIGHTS, why", t.why(), 0);
+            due(what + ", NULL", t.refused(0), 0);
+            due(what + ", INDEX", t.refused(1), 0);
+        }
     }
 
     /** The greatest PERIODS and WEIGHTS that a row can have, 24 of them: the sum is far from endless. */

@@ -34,6 +34,7 @@ public final class StateBoundaryTests {
         racksOfStationsAreApart();
         metersReadTheRowThatIsThere();
         fiveHundredAndTwelveCalls();
+        theLastCallMayBeAnyCall();
         System.out.println(wrong == 0 ? "rows and racks are as told" : wrong + " answers are not as told");
         if (wrong != 0) {
             System.exit(1);
@@ -514,6 +515,59 @@ public final class StateBoundaryTests {
             due("put, call " + (calls + 1), t.put(s, which, FULL - 1, calls, 0), 1);
             due("rack, call " + (calls + 2), t.rack(s, false), 1);
             due("get, call " + (calls + 3), t.get(s, which, FULL - 1), bits(which, calls));
+        }
+    }
+
+    /** The same sentence: the 512th call is answered, whichever it is, and whether those before were refused. */
+    private static void theLastCallMayBeAnyCall() {
+        long[] wants = {1, 1, 1, 2, 1, bits(READINGS, 7), 1, bits(READINGS, 1), 1, 7, bits(PERIODS, 4),
+            bits(PERIODS, 12), 1, 1, 7, 64};
+        for (int act = 0; act < wants.length; act++) {
+            due("act " + act + " after calls that were refused", call(after511Calls(1), act), wants[act]);
+            due("act " + act + " after calls that were not", call(after511Calls(0), act), wants[act]);
+        }
+        due("why() as the last call", after511Calls(1).why(), NULL);
+        due("why() as the last call", after511Calls(0).why(), 0);
+        due("refused(0) as the last call", after511Calls(1).refused(0), 502);
+        due("refused(0) as the last call", after511Calls(0).refused(0), 0);
+    }
+
+    /** Station 0 with READINGS 7 and 2, a PERIOD of 10, a WEIGHT of 3 and a FLOAT METER; station 1 with nothing. */
+    private static TideStation after511Calls(int stationAsked) {
+        TideStation t = new TideStation();
+        t.row(0, READINGS, 2);
+        t.put(0, READINGS, 0, 7, 0);
+        t.put(0, READINGS, 1, 2, 0);
+        t.row(0, PERIODS, 1);
+        t.put(0, PERIODS, 0, 10, 0);
+        t.row(0, WEIGHTS, 1);
+        t.put(0, WEIGHTS, 0, 3, 0);
+        t.rack(0, false);
+        t.hang(0, 0, 2, 64);
+        for (int calls = 9; calls < 511; calls++) {
+            t.size(stationAsked, READINGS);
+        }
+        return t;
+    }
+
+    private static long call(TideStation t, int act) {
+        switch (act) {
+            case 0: return t.row(5, WEIGHTS, FULL);
+            case 1: return t.lose(0, WEIGHTS);
+            case 2: return t.share(1, READINGS, 0);
+            case 3: return t.size(0, READINGS);
+            case 4: return t.put(0, WEIGHTS, 0, 1, 160);
+            case 5: return t.get(0, READINGS, 0);
+            case 6: return t.move(0, READINGS, 0, WEIGHTS, 0);
+            case 7: return t.rest(0, 0, 1);
+            case 8: return t.step(0, 0, 1);
+            case 9: return t.whole(0, 0);
+            case 10: return t.phase(0, 0, 14, 0);
+            case 11: return t.tide(0, 14, 0);
+            case 12: return t.rack(5, true);
+            case 13: return t.hang(0, 3, 1, 0);
+            case 14: return t.read(0, 0, 0);
+            default: return t.stepOf(0, 0);
         }
     }
 }
